@@ -319,7 +319,7 @@ public final class LitmusHall {
         int cores;
         final int[] lengths = new int[MOST_CORES];
         final int[] cells = new int[CELLS];
-        private final int[] parts = new int[MOST_CORES * INS_ROOM * PARTS];
+        final int[] parts = new int[MOST_CORES * INS_ROOM * PARTS];
 
         void clear() {
             cores = 0;
@@ -327,34 +327,32 @@ public final class LitmusHall {
             Arrays.fill(cells, 0);
         }
 
-        int part(int k, int i, int what) {
-            return parts[(k * INS_ROOM + i) * PARTS + what];
+        /** Where the parts of an INS begin. */
+        static int partsAt(int k, int i) {
+            return (k * INS_ROOM + i) * PARTS;
         }
 
-        void setPart(int k, int i, int what, int value) {
-            parts[(k * INS_ROOM + i) * PARTS + what] = value;
+        int part(int k, int i, int what) {
+            return parts[partsAt(k, i) + what];
         }
 
         boolean hasRoom(int k) {
             return lengths[k] < INS_ROOM;
         }
 
-        /** The number of a new INS, which has no parts yet; there must be room. */
+        /** Where the parts of a new INS begin, which has only its kind yet; there must be room. */
         int addBlank(int k, int kind) {
-            int i = lengths[k];
+            int ins = partsAt(k, lengths[k]);
             lengths[k]++;
-            setPart(k, i, KIND_PART, kind);
-            setPart(k, i, CELL_PART, NONE);
-            setPart(k, i, REG_PART, NONE);
-            setVal(k, i, FIRST_VAL, NONE, 0);
-            setVal(k, i, SECOND_VAL, NONE, 0);
-            setPart(k, i, SKIP_PART, 0);
-            return i;
-        }
-
-        void setVal(int k, int i, int which, int reg, int value) {
-            setPart(k, i, which, reg);
-            setPart(k, i, which + 1, value);
+            parts[ins + KIND_PART] = kind;
+            parts[ins + CELL_PART] = NONE;
+            parts[ins + REG_PART] = NONE;
+            parts[ins + FIRST_VAL] = NONE;
+            parts[ins + FIRST_VAL + 1] = 0;
+            parts[ins + SECOND_VAL] = NONE;
+            parts[ins + SECOND_VAL + 1] = 0;
+            parts[ins + SKIP_PART] = 0;
+            return ins;
         }
 
         int insInAll() {
@@ -407,11 +405,10 @@ public final class LitmusHall {
         }
 
         private void copyIns(Program plain, int k, int i, int skip) {
-            int to = addBlank(k, plain.part(k, i, KIND_PART));
-            for (int what = CELL_PART; what < SKIP_PART; what++) {
-                setPart(k, to, what, plain.part(k, i, what));
-            }
-            setPart(k, to, SKIP_PART, skip);
+            int from = partsAt(k, i);
+            int to = addBlank(k, plain.parts[from + KIND_PART]);
+            System.arraycopy(plain.parts, from, parts, to, PARTS);
+            parts[to + SKIP_PART] = skip;
         }
 
         // A fence right ahead of the INS that a skip leads to is not left out: it is done.
@@ -488,7 +485,7 @@ public final class LitmusHall {
                 if (kinds[n] == NO_TOKEN) {
                     return;
                 }
-                numbers[n] = kinds[n] == NUMBER ? numberOf(tape, from, behind) : 0;
+                numbers[n] = kinds[n] == NUMBER ? numberOf(tape, from, behind) : NONE;
                 from = behind;
             }
         }
@@ -606,11 +603,11 @@ public final class LitmusHall {
             if (!take(CELL_WORD) || !takeCell()) {
                 return false;
             }
+            int cell = value;
             int token = at - 1;
             if (!take(EQUALS) || !takeVal(false) || !take(SEMICOLON)) {
                 return false;
             }
-            int cell = numbers[token];
             if (cell < CELLS) {
                 if (((told >> cell) & 1) != 0) {
                     noteLate(token);
@@ -621,11 +618,21 @@ public final class LitmusHall {
             return true;
         }
 
+        private boolean takeReg() {
+            int kind = kinds[at];
+            if (kind < REG_A || kind > REG_C) {
+                return fail(SYNTAX);
+            }
+            valueReg = kind - REG_A;
+            return take(kind);
+        }
+
         private boolean takeCell() {
+            value = numbers[at];
             if (!take(NUMBER)) {
                 return false;
             }
-            if (numbers[at - 1] >= CELLS) {
+            if (value >= CELLS) {
                 noteLate(at - 1);
             }
             return true;
@@ -633,29 +640,42 @@ public final class LitmusHall {
 
         private boolean takeVal(boolean orReg) {
             int kind = kinds[at];
-            valueReg = NONE;
-            value = 0;
             if (orReg && kind >= REG_A && kind <= REG_C) {
                 valueReg = kind - REG_A;
+                value = 0;
                 return take(kind);
             }
             if (kind == MINUS && !take(MINUS)) {
                 return false;
             }
-            if (!take(NUMBER)) {
+            valueReg = NONE;
+            value = kind == MINUS ? -numbers[at] : numbers[at];
+            return take(NUMBER);
+        }
+
+        private boolean takeSkip() {
+            if (!take(SKIP_WORD)) {
                 return false;
             }
-            value = kind == MINUS ? -numbers[at - 1] : numbers[at - 1];
-            return true;
+            value = numbers[at];
+            return take(NUMBER);
         }
 
         private boolean readCores() {
-            for (int k = 0; k < MOST_CORES; k++) {
-                if (k > 0 && kinds[at] == TEXT_END) {
-                    return true;
-                }
+            for (int k = 0; k < MOST_CORES && (k == 0 || kinds[at] != TEXT_END); k++) {
                 draft.cores = k + 1;
-                if (!take(CORE_WORD) || !take(COLON) || !readInsOf(k) || !take(END_WORD)) {
+                if (!take(CORE_WORD) || !take(COLON)) {
+                    return false;
+                }
+                for (int i = 0; i < MOST_INS && kinds[at] <= IF; i++) {
+                    if (!readIns(k, i)) {
+                        return false;
+                    }
+                }
+                if (kinds[at] <= IF) {
+                    return fail(ROOM);
+                }
+                if (!take(END_WORD)) {
                     return false;
                 }
                 checkSkips(k);
@@ -666,29 +686,19 @@ public final class LitmusHall {
             return fail(kinds[at] == CORE_WORD ? ROOM : SYNTAX);
         }
 
-        private boolean readInsOf(int k) {
-            for (int i = 0; i < MOST_INS; i++) {
-                if (kinds[at] > IF) {
-                    return true;
-                }
-                if (!readIns(k, kinds[at])) {
-                    return false;
-                }
-            }
-            return kinds[at] > IF || fail(ROOM);
-        }
-
-        private boolean readIns(int k, int kind) {
+        private boolean readIns(int k, int i) {
+            int kind = kinds[at];
             if (!take(kind)) {
                 return false;
             }
-            int i = draft.addBlank(k, kind);
+            int ins = draft.addBlank(k, kind);
             String shape = shapeOf(kind);
             for (int n = 0; n < shape.length(); n++) {
-                if (!readPart(k, i, shape.charAt(n))) {
+                if (!readPart(ins, shape.charAt(n))) {
                     return false;
                 }
             }
+            skipTokens[i] = at - 1;
             return take(SEMICOLON);
         }
 
@@ -714,51 +724,27 @@ public final class LitmusHall {
             }
         }
 
-        private boolean readPart(int k, int i, char letter) {
+        private boolean readPart(int ins, char letter) {
             if (letter == 'R') {
-                return readReg(k, i);
+                boolean isReg = takeReg();
+                draft.parts[ins + Program.REG_PART] = valueReg;
+                return isReg;
             }
             if (letter == 'C') {
-                return readCell(k, i);
+                boolean isCell = takeCell();
+                draft.parts[ins + Program.CELL_PART] = value;
+                return isCell;
             }
             if (letter == 'S') {
-                return readSkip(k, i);
+                boolean isSkip = takeSkip();
+                draft.parts[ins + Program.SKIP_PART] = value;
+                return isSkip;
             }
-            return readVal(k, i, letter == 'V' ? Program.FIRST_VAL : Program.SECOND_VAL);
-        }
-
-        private boolean readCell(int k, int i) {
-            if (!takeCell()) {
-                return false;
-            }
-            draft.setPart(k, i, Program.CELL_PART, numbers[at - 1]);
-            return true;
-        }
-
-        private boolean readVal(int k, int i, int which) {
-            if (!takeVal(true)) {
-                return false;
-            }
-            draft.setVal(k, i, which, valueReg, value);
-            return true;
-        }
-
-        private boolean readReg(int k, int i) {
-            int kind = kinds[at];
-            if (kind < REG_A || kind > REG_C) {
-                return fail(SYNTAX);
-            }
-            draft.setPart(k, i, Program.REG_PART, kind - REG_A);
-            return take(kind);
-        }
-
-        private boolean readSkip(int k, int i) {
-            if (!take(SKIP_WORD) || !take(NUMBER)) {
-                return false;
-            }
-            skipTokens[i] = at - 1;
-            draft.setPart(k, i, Program.SKIP_PART, numbers[at - 1]);
-            return true;
+            int which = letter == 'V' ? Program.FIRST_VAL : Program.SECOND_VAL;
+            boolean isVal = takeVal(true);
+            draft.parts[ins + which] = valueReg;
+            draft.parts[ins + which + 1] = value;
+            return isVal;
         }
 
         private void checkSkips(int k) {
@@ -855,8 +841,36 @@ public final class LitmusHall {
         void move(Program p, int s, int mode) {
             if (s >= GO) {
                 letGo(s - GO);
-            } else {
-                act(p, s, mode);
+                return;
+            }
+            int[] parts = p.parts;
+            int ins = Program.partsAt(s, nextOf(s));
+            int cell = parts[ins + Program.CELL_PART];
+            int reg = s * REGS + parts[ins + Program.REG_PART];
+            words[CORE_AT + s]++;
+            switch (parts[ins + Program.KIND_PART]) {
+                case LOAD:
+                    words[reg] = seen(s, cell);
+                    break;
+                case STORE:
+                    put(s, cell, valueOf(parts, ins + Program.FIRST_VAL, s), mode);
+                    break;
+                case SET:
+                    words[reg] = valueOf(parts, ins + Program.FIRST_VAL, s);
+                    break;
+                case ADD:
+                    words[reg] += valueOf(parts, ins + Program.FIRST_VAL, s);
+                    break;
+                case IF:
+                    words[CORE_AT + s] += words[reg] != 0 ? parts[ins + Program.SKIP_PART] : 0;
+                    break;
+                case FENCE:
+                    forgetStored(s);
+                    break;
+                default:
+                    lock(parts, ins, s);
+                    forgetStored(s);
+                    break;
             }
         }
 
@@ -869,40 +883,6 @@ public final class LitmusHall {
             int cells = ((word >> CELL_SHIFT) & ROW_CELLS_MASK) >> CELL_BITS;
             word = (word & ~(ROW_CELLS_MASK << CELL_SHIFT)) | (cells << CELL_SHIFT);
             words[CORE_AT + k] = word - (1 << SIZE_SHIFT);
-        }
-
-        private void act(Program p, int k, int mode) {
-            int i = nextOf(k);
-            int kind = p.part(k, i, Program.KIND_PART);
-            int cell = p.part(k, i, Program.CELL_PART);
-            int reg = k * REGS + p.part(k, i, Program.REG_PART);
-            words[CORE_AT + k]++;
-            switch (kind) {
-                case LOAD:
-                    words[reg] = seen(k, cell);
-                    break;
-                case STORE:
-                    put(k, cell, valueOf(p, k, i, Program.FIRST_VAL), mode);
-                    break;
-                case SET:
-                    words[reg] = valueOf(p, k, i, Program.FIRST_VAL);
-                    break;
-                case ADD:
-                    words[reg] += valueOf(p, k, i, Program.FIRST_VAL);
-                    break;
-                case IF:
-                    if (words[reg] != 0) {
-                        words[CORE_AT + k] += p.part(k, i, Program.SKIP_PART);
-                    }
-                    break;
-                case FENCE:
-                    forgetStored(k);
-                    break;
-                default:
-                    lock(p, k, i);
-                    forgetStored(k);
-                    break;
-            }
         }
 
         private int seen(int k, int cell) {
@@ -928,18 +908,18 @@ public final class LitmusHall {
             }
         }
 
-        private int valueOf(Program p, int k, int i, int which) {
-            int reg = p.part(k, i, which);
-            return reg == NONE ? p.part(k, i, which + 1) : words[k * REGS + reg];
+        private int valueOf(int[] parts, int val, int k) {
+            int reg = parts[val];
+            return reg == NONE ? parts[val + 1] : words[k * REGS + reg];
         }
 
-        private void lock(Program p, int k, int i) {
-            int kind = p.part(k, i, Program.KIND_PART);
-            int cell = MEMORY_AT + p.part(k, i, Program.CELL_PART);
-            int reg = k * REGS + p.part(k, i, Program.REG_PART);
+        private void lock(int[] parts, int ins, int k) {
+            int kind = parts[ins + Program.KIND_PART];
+            int cell = MEMORY_AT + parts[ins + Program.CELL_PART];
+            int reg = k * REGS + parts[ins + Program.REG_PART];
             // Both VALS ahead of the step: the REG that it changes may be one of them.
-            int first = valueOf(p, k, i, Program.FIRST_VAL);
-            int second = valueOf(p, k, i, Program.SECOND_VAL);
+            int first = valueOf(parts, ins + Program.FIRST_VAL, k);
+            int second = valueOf(parts, ins + Program.SECOND_VAL, k);
             int had = words[cell];
             int was = words[reg];
             words[reg] = had;
@@ -1033,20 +1013,14 @@ public final class LitmusHall {
                 fetch(n);
                 if (state.hasEnded(p)) {
                     addEnd(n);
-                } else if (!keepMoves(p, mode, n)) {
-                    return false;
                 }
-            }
-            return true;
-        }
-
-        private boolean keepMoves(Program p, int mode, int n) {
-            for (int s = 0; s < STEP_KINDS; s++) {
-                if (state.can(p, s)) {
-                    System.arraycopy(state.words, 0, moved.words, 0, width);
-                    moved.move(p, s, mode);
-                    if (!keep(moved.words, (n << CAME_SHIFT) | s)) {
-                        return false;
+                for (int s = 0; s < STEP_KINDS; s++) {
+                    if (state.can(p, s)) {
+                        System.arraycopy(state.words, 0, moved.words, 0, width);
+                        moved.move(p, s, mode);
+                        if (!keep(moved.words, (n << CAME_SHIFT) | s)) {
+                            return false;
+                        }
                     }
                 }
             }

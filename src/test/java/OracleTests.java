@@ -193,6 +193,9 @@ public final class OracleTests {
     private static void program(LitmusHall hall, String text, int mostCure) {
         text(hall, text);
         Oracle oracle = Oracle.of(text);
+        if (oracle.fault != 0) {
+            return;
+        }
         List<TreeMap<List<Integer>, String>> both = new ArrayList<>();
         for (int mode = 0; mode < 2; mode++) {
             List<Oracle.S> states = oracle.explore(mode == 1, false, new TreeSet<>());
