@@ -19,8 +19,8 @@ public final class LitmusHall {
     private static final int CELLS = 4;
     private static final int REGS = 3;
 
-    // The least room above 6 INS and 6 stores of three CORES and the fences of a CURE.
-    private static final int MOST_STEPS = 3 * 2 * MOST_INS + MOST_CURE;
+    // Each INS is a step, each store of one goes by another; a CURE may put fences in.
+    private static final int MOST_STEPS = MOST_CORES * 2 * MOST_INS + MOST_CURE;
 
     private static final int LOAD = 0;
     private static final int STORE = 1;

@@ -213,6 +213,13 @@ public final class FindingTests {
     }
 
     private static void raceIsTheFirst() {
+        // 2,885 STATES, but more than 3,000 with what was stored as part of them.
+        LitmusHall hall = Check.hall("core:if a skip 1;load b 2;swap c 0;if b skip 2;load b 2;store 1 0;end "
+            + "core:swap c 0;store 0 0;if b skip 1;inc a 0 1;inc b 2 1;swap c 2;end "
+            + "core:store 1 0;store 0 2;load c 2;load c 2;store 2 0;swap a 1;end");
+        CHECK.due("count(3)", hall.count(3), 2885);
+        CHECK.due("race() with what was stored", hall.race(), -2);
+        CHECK.due("racer(0) of it", hall.racer(0), -1);
         // Two cells stored to: the store to x itself does not count, the other does.
         race("core:store 1 1;store 0 1;load a 0;end core:store 0 2;end", 0, 1, 0, 0, 0);
         // The same MEMORY and REGS by a way with the store and by one without: only the way with it races.
