@@ -2,12 +2,30 @@
 public final class Check {
     private int wrong;
     private int asked;
+    private String sentence = "";
+    private int askedAhead = -1;
+
+    /** The sentence of the document by which the answers behind this are due. */
+    public void sentence(String text) {
+        endSentence();
+        sentence = text;
+        askedAhead = asked;
+    }
+
+    // A sentence with no answer asked by it would look tested, and is not.
+    private void endSentence() {
+        if (asked == askedAhead) {
+            wrong++;
+            System.out.println("nothing is asked by [" + sentence + "]");
+        }
+    }
 
     public void due(String call, long got, long want) {
         asked++;
         if (got != want) {
             wrong++;
-            System.out.println(call + " answered " + got + ", due is " + want);
+            String by = sentence.isEmpty() ? "" : " by [" + sentence + "]";
+            System.out.println(call + " answered " + got + ", due is " + want + by);
         }
     }
 
@@ -15,8 +33,27 @@ public final class Check {
         due(call, got ? 1 : 0, want ? 1 : 0);
     }
 
+    public void due(String call, String got, String want) {
+        asked++;
+        if (!got.equals(want)) {
+            wrong++;
+            System.out.println(call + " by [" + sentence + "] is\n  " + got + "\n  due is\n  " + want);
+        }
+    }
+
+    /** A text on a new hall: the answer of read(), the place, and whether it is the PROGRAM then. */
+    public void text(String text, int fault, int place) {
+        LitmusHall hall = new LitmusHall();
+        feed(hall, text);
+        due("read of '" + text + "'", hall.read(), fault);
+        due("place of '" + text + "'", hall.place(), place);
+        due("tape behind '" + text + "'", hall.count(9), 0);
+        due("PROGRAM of '" + text + "'", hall.begin(0), fault == 0);
+    }
+
     /** Ends the program with exit code 1 if an answer was wrong. */
     public void end() {
+        endSentence();
         System.out.println(wrong + " of " + asked + " answers are not as due");
         if (wrong != 0 || asked == 0) {
             System.exit(1);

@@ -312,6 +312,16 @@ public final class Oracle {
 
     /** All states with their least schedules, or null if there are more than 3,000. */
     public List<S> explore(boolean rows, boolean track, TreeSet<Integer> fences) {
+        return explore(rows, track, fences, LIMIT);
+    }
+
+    /** How many states there are, also if there are some more than 3,000; -1: far more. */
+    public int states(boolean rows, boolean track, Integer... fences) {
+        List<S> all = explore(rows, track, new TreeSet<>(List.of(fences)), 2 * LIMIT);
+        return all == null ? -1 : all.size();
+    }
+
+    private List<S> explore(boolean rows, boolean track, TreeSet<Integer> fences, int limit) {
         Map<String, S> all = new HashMap<>();
         Map<String, S> level = new HashMap<>();
         S start = first(fences);
@@ -332,7 +342,7 @@ public final class Oracle {
                 }
             }
             all.putAll(nearest);
-            if (all.size() > LIMIT) {
+            if (all.size() > limit) {
                 return null;
             }
             level = nearest;

@@ -14,7 +14,7 @@ public final class AnyCallTests {
         "core:load a 4;end", "core:", "core:if a skip 9;end", "cell 1=1;".repeat(101), "\u00ff\u0080"};
 
     public static void main(String[] args) {
-        for (int seed = 0; seed < 60; seed++) {
+        for (int seed = 0; seed < 80; seed++) {
             CHECK.due("seed " + seed, run(seed), run(seed));
         }
         CHECK.end();
@@ -24,12 +24,17 @@ public final class AnyCallTests {
         Random random = new Random(seed);
         LitmusHall hall = new LitmusHall();
         long sum = 0;
-        for (int n = 0; n < 512; n++) {
+        int calls = 0;
+        // Room for the longest of the texts is left to the end: an object is promised for 512 calls.
+        while (calls < 450) {
             if (random.nextInt(40) == 0) {
-                Check.feed(hall, TEXTS[random.nextInt(TEXTS.length)]);
+                String text = TEXTS[random.nextInt(TEXTS.length)];
+                Check.feed(hall, text);
                 sum = sum * 31 + hall.read();
+                calls += (text.length() + 19) / 20 + 2;
             }
             sum = sum * 31 + any(hall, random);
+            calls++;
         }
         return sum;
     }

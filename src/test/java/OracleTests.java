@@ -16,18 +16,18 @@ public final class OracleTests {
     public static void main(String[] args) {
         int scale = args.length > 0 ? Integer.parseInt(args[0]) : 1;
         Random random = new Random(20261116 + scale);
-        LitmusHall hall = new LitmusHall();
+        LongHall hall = new LongHall();
         for (int n = 0; n < 150 * scale; n++) {
             // Rows that were used for an earlier program must not show in a later one.
-            hall = n % 5 == 0 ? new LitmusHall() : hall;
+            hall = n % 5 == 0 ? new LongHall() : hall;
             program(hall, program(random, 1 + random.nextInt(3), 1 + random.nextInt(4), random.nextInt(4)), 2);
         }
         for (int n = 0; n < 150 * scale; n++) {
-            hall = n % 5 == 0 ? new LitmusHall() : hall;
+            hall = n % 5 == 0 ? new LongHall() : hall;
             program(hall, crossing(random, 2 + random.nextInt(2)), 2);
         }
         for (int n = 0; n < 40 * scale; n++) {
-            hall = n % 3 == 0 ? new LitmusHall() : hall;
+            hall = n % 3 == 0 ? new LongHall() : hall;
             program(hall, program(random, 3, 3 + random.nextInt(4), random.nextInt(4)), 0);
         }
         for (int n = 0; n < 300 * scale; n++) {
@@ -152,11 +152,10 @@ public final class OracleTests {
 
     // ---- comparing
 
-    private static void text(LitmusHall hall, String text) {
+    private static void text(LongHall hall, String text) {
         Oracle oracle = Oracle.of(text);
         FAULTS[oracle.fault]++;
-        Check.feed(hall, text);
-        CHECK.due("read of '" + text + "'", hall.read(), oracle.fault);
+        CHECK.due("read of '" + text + "'", hall.read(text), oracle.fault);
         CHECK.due("place of '" + text + "'", hall.place(), oracle.place);
         if (oracle.fault == 0) {
             CHECK.due("CORES of '" + text + "'", hall.count(0), oracle.cores.size());
@@ -164,7 +163,7 @@ public final class OracleTests {
         }
     }
 
-    private static void parts(LitmusHall hall, Oracle oracle, String text) {
+    private static void parts(LongHall hall, Oracle oracle, String text) {
         int sum = 0;
         for (int k = 0; k < oracle.cores.size(); k++) {
             sum += oracle.cores.get(k).size();
@@ -190,7 +189,7 @@ public final class OracleTests {
         return val.isEmpty() || regOf(val) >= 0 ? 0 : Integer.parseInt(val);
     }
 
-    private static void program(LitmusHall hall, String text, int mostCure) {
+    private static void program(LongHall hall, String text, int mostCure) {
         text(hall, text);
         Oracle oracle = Oracle.of(text);
         if (oracle.fault != 0) {
@@ -210,7 +209,7 @@ public final class OracleTests {
         }
     }
 
-    private static void found(LitmusHall hall, String text, int mode, TreeMap<List<Integer>, String> want) {
+    private static void found(LongHall hall, String text, int mode, TreeMap<List<Integer>, String> want) {
         if (want == null) {
             full++;
         }
@@ -232,7 +231,7 @@ public final class OracleTests {
         CHECK.due("outcome behind the last of '" + text + "'", hall.outcome(mode, n, 9), 0);
     }
 
-    private static void others(LitmusHall hall, String text, TreeMap<List<Integer>, String> without,
+    private static void others(LongHall hall, String text, TreeMap<List<Integer>, String> without,
             TreeMap<List<Integer>, String> with) {
         if (without == null || with == null) {
             CHECK.due("more(0) of '" + text + "'", hall.more(0), -2);
@@ -250,7 +249,7 @@ public final class OracleTests {
         CHECK.due("more behind the last of '" + text + "'", hall.more(met), -1);
     }
 
-    private static void race(LitmusHall hall, String text, List<Integer> want) {
+    private static void race(LongHall hall, String text, List<Integer> want) {
         if (want == null || want.isEmpty()) {
             CHECK.due("race of '" + text + "'", hall.race(), want == null ? -2 : 0);
             CHECK.due("racer(0) of '" + text + "'", hall.racer(0), -1);
@@ -264,7 +263,7 @@ public final class OracleTests {
         }
     }
 
-    private static void cure(LitmusHall hall, String text, int n, Oracle.Cure want) {
+    private static void cure(LongHall hall, String text, int n, Oracle.Cure want) {
         CURES[want.answer() + 2]++;
         CHECK.due("cure(" + n + ") of '" + text + "'", hall.cure(n), want.answer());
         for (int i = 0; want.answer() >= 0 && i <= want.places().size(); i++) {
@@ -275,7 +274,7 @@ public final class OracleTests {
 
     // ---- a machine, step by step, with steps that can't and steps taken back
 
-    private static void walk(LitmusHall hall, String text, Random random) {
+    private static void walk(LongHall hall, String text, Random random) {
         text(hall, text);
         Oracle oracle = Oracle.of(text);
         int mode = random.nextInt(2);
@@ -301,7 +300,7 @@ public final class OracleTests {
         }
     }
 
-    private static void same(LitmusHall hall, String text, Oracle oracle, List<Oracle.S> stack) {
+    private static void same(LongHall hall, String text, Oracle oracle, List<Oracle.S> stack) {
         Oracle.S s = stack.get(stack.size() - 1);
         CHECK.due("steps in '" + text + "'", hall.count(6), stack.size() - 1);
         CHECK.due("ended in '" + text + "'", hall.count(7), oracle.ended(s) ? 1 : 0);

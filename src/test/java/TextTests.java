@@ -50,12 +50,7 @@ public final class TextTests {
     }
 
     private static void text(String text, int fault, int place) {
-        LitmusHall hall = new LitmusHall();
-        Check.feed(hall, text);
-        CHECK.due("read of '" + text + "'", hall.read(), fault);
-        CHECK.due("place of '" + text + "'", hall.place(), place);
-        CHECK.due("tape behind '" + text + "'", hall.count(9), 0);
-        CHECK.due("PROGRAM of '" + text + "'", hall.begin(0), fault == 0);
+        CHECK.text(text, fault, place);
     }
 
     private static void goodTexts() {
