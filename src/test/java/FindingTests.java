@@ -207,8 +207,6 @@ public final class FindingTests {
         race("core:store 1 1;swap a 0;end core:store 0 1;end");
         race("core:store 1 1;load a 0;store 0 1;end");
         race("core:swap a 1;load a 0;end core:store 0 1;end");
-        // The store to 0 is done only behind what has seen CORE 0's end.
-        race("core:store 1 1;load a 0;store 2 1;end core:load b 2;if b skip 1;set a 0;fence;end");
         race("core:end");
     }
 
