@@ -24,8 +24,7 @@ public final class Check {
         asked++;
         if (got != want) {
             wrong++;
-            String by = sentence.isEmpty() ? "" : " by [" + sentence + "]";
-            System.out.println(call + " answered " + got + ", due is " + want + by);
+            System.out.println(call + " answered " + got + ", due is " + want + bySentence());
         }
     }
 
@@ -37,8 +36,12 @@ public final class Check {
         asked++;
         if (!got.equals(want)) {
             wrong++;
-            System.out.println(call + " by [" + sentence + "] is\n  " + got + "\n  due is\n  " + want);
+            System.out.println(call + bySentence() + " is\n  " + got + "\n  due is\n  " + want);
         }
+    }
+
+    private String bySentence() {
+        return sentence.isEmpty() ? "" : " by [" + sentence + "]";
     }
 
     /** A text on a new hall: the answer of read(), the place, and whether it is the PROGRAM then. */

@@ -10,13 +10,23 @@ import java.util.regex.Matcher;
 import java.util.regex.Pattern;
 import java.util.spi.ToolProvider;
 
-/** Rules 8 and 11 of LANGUAGE.md: no recursion, and calls go at most eight deep, as the compiled class has them. */
+/**
+ * Rules of LANGUAGE.md, as the compiled class keeps to them: 8 and 11, no recursion, and calls go at most eight deep; 4,
+ * only what it lists of the library; 2, 6 and 10, nothing thrown, cast, locked or made by the machine's own hand.
+ */
 public final class DepthTests {
     private static final Check CHECK = new Check();
     private static final int MOST = 8;
     private static final Pattern HEAD = Pattern.compile("^(?:\\w+ )*class (\\S+).*\\{$");
     private static final Pattern METHOD = Pattern.compile("^  (?:[\\w\\[\\]$. ]+ )?([\\w$.]+)\\([^)]*\\);$");
     private static final Pattern CALL = Pattern.compile("invoke\\w+ .*// (?:Interface)?Method ([^:]*):");
+
+    private static final Pattern INSTRUCTION = Pattern.compile("^ +\\d+: ([a-z_0-9]+)\\b.*");
+    // Of what rule 4 lists, what a class without texts and lists of its own can need.
+    private static final Pattern LIBRARY = Pattern.compile("java\\.lang\\.(Object\\.<init>|String\\.(length|charAt)"
+        + "|Math\\.(max|min)|Integer\\.compare|System\\.arraycopy)|java\\.util\\.Arrays\\.(copyOf|copyOfRange|fill)");
+    private static final List<String> BANNED = List.of("athrow", "checkcast", "instanceof", "monitorenter", "monitorexit",
+        "invokedynamic", "multianewarray", "jsr");
 
     private static final Map<String, TreeSet<String>> CALLS = new HashMap<>();
 
@@ -28,6 +38,7 @@ public final class DepthTests {
             CHECK.due("calls are seen", CALLS.containsKey("LitmusHall.read"), true);
             for (String method : CALLS.keySet()) {
                 int depth = depth(method, new ArrayList<>());
+                library(method);
                 CHECK.due("depth of " + method + " is " + depth + ", at most " + MOST, depth <= MOST, true);
             }
         } else {
@@ -49,6 +60,11 @@ public final class DepthTests {
             Matcher head = HEAD.matcher(line);
             Matcher declared = METHOD.matcher(line);
             Matcher call = CALL.matcher(line);
+            Matcher instruction = INSTRUCTION.matcher(line);
+            if (instruction.matches()) {
+                CHECK.due(method + " has " + instruction.group(1), BANNED.contains(instruction.group(1)), false);
+            }
+            CHECK.due(method + " has a row of catches", line.contains("Exception table:"), false);
             if (head.matches()) {
                 type = head.group(1);
             } else if (declared.matches()) {
@@ -58,6 +74,13 @@ public final class DepthTests {
                 String target = call.group(1).replace("\"", "").replace('/', '.');
                 CALLS.get(method).add(target.contains(".") ? target : type + "." + target);
             }
+        }
+    }
+
+    private static void library(String method) {
+        for (String called : CALLS.get(method)) {
+            boolean own = called.startsWith("LitmusHall");
+            CHECK.due(method + " calls " + called, own || LIBRARY.matcher(called).matches(), true);
         }
     }
 

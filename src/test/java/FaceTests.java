@@ -23,6 +23,9 @@ public final class FaceTests {
         "int outcome(int,int,int)", "int schedule(int,int,int)", "int more(int)", "int race()", "int racer(int)",
         "int cure(int)", "int cured(int)", "int count(int)");
 
+    private static final List<Class<?>> CONSTANTS = List.of(int.class, long.class, boolean.class, char.class, String.class,
+        int[].class, long[].class, char[].class, byte[].class);
+
     public static void main(String[] args) throws IOException {
         face();
         classesInside();
@@ -73,7 +76,16 @@ public final class FaceTests {
         return text.append(')').toString();
     }
 
+    private static boolean isListed(Class<?> type, Map<String, Class<?>> own) {
+        Class<?> part = type.isArray() ? type.getComponentType() : type;
+        return part.isPrimitive() || part == String.class || own.containsValue(part);
+    }
+
     private static void classesInside() {
+        TreeSet<String> names = new TreeSet<>();
+        for (String signature : FACE) {
+            names.add(signature.substring(signature.indexOf(' ') + 1, signature.indexOf('(')));
+        }
         Class<?>[] inside = LitmusHall.class.getDeclaredClasses();
         CHECK.due("at most twelve classes", inside.length < 12, true);
         Map<String, Class<?>> all = new HashMap<>();
@@ -89,10 +101,14 @@ public final class FaceTests {
                 boolean constant = Modifier.isStatic(field.getModifiers());
                 fields += constant ? 0 : 1;
                 CHECK.due(field + " is final if static", !constant || Modifier.isFinal(field.getModifiers()), true);
+                CHECK.due(field + " is a constant if static", !constant || CONSTANTS.contains(field.getType()), true);
+                CHECK.due(field + " is of a type that rule 3 lists", isListed(field.getType(), all), true);
             }
             CHECK.due(type + " has at most twenty fields", fields <= 20, true);
             for (Method method : type.getDeclaredMethods()) {
                 CHECK.due(method + " takes at most seven", method.getParameterCount() <= 7, true);
+                boolean nested = type != LitmusHall.class && !method.isSynthetic();
+                CHECK.due(method + " has a name of its own", nested && names.contains(method.getName()), false);
             }
         }
     }
